@@ -879,7 +879,8 @@ public final class ThatchNext {
         int leaking() {
             int set = 0;
             for (int r = 0; r < roofs; r++) {
-                set |= isLeaking(r) ? 1 << r : 0;
+                boolean leaks = bit(slates, r) == 0 && soundIn(r) == 0;
+                set |= leaks ? 1 << r : 0;
             }
             return set;
         }
@@ -1110,25 +1111,15 @@ public final class ThatchNext {
         private static final int END = 1;
         private static final int SIGN = 2;
         private static final int NUMBER = 3;
-        private static final int UNKNOWN = 4;
-        private static final int ROOF = 5;
-        private static final int SLATE = 6;
-        private static final int RING = 7;
-        private static final int DEEP = 8;
-        private static final int REED = 9;
-        private static final int STRAW = 10;
-        private static final int ODDS = 11;
-        private static final int WET = 12;
-        private static final int MICE = 13;
-        private static final int SPARK = 14;
+        private static final int WORD = 4;
 
-        private final byte[] text;
-        private int length;
         final World world = new World();
         int fault;
         int faultPlace = NONE;
-        private int next;
+        private final byte[] text;
+        private int length;
         private int start;
+        private int next;
         private int token;
         private int value;
 
@@ -1148,6 +1139,7 @@ public final class ThatchNext {
             }
         }
 
+        /** A faulty token fits nowhere, so that nothing is read behind it. */
         private void fail(int kind) {
             if (fault == 0) {
                 fault = kind;
@@ -1157,28 +1149,23 @@ public final class ThatchNext {
         }
 
         private void readLine() {
-            switch (token) {
-                case ROOF:
-                    readRoof();
-                    break;
-                case RING:
-                    world.isRing = true;
-                    advance();
-                    break;
-                case DEEP:
-                    readDeep();
-                    break;
-                case REED:
-                    advance();
-                    world.reedYears = readNumber(1, 30);
-                    world.strawYears = readNumber(1, 30);
-                    break;
-                case ODDS:
-                    advance();
-                    world.odds = readNumber(2, 6);
-                    break;
-                default:
-                    fail(2);
+            if (isWord("roof")) {
+                readRoof();
+            } else if (isWord("ring")) {
+                world.isRing = true;
+                advance();
+            } else if (isWord("deep") && world.roofs == 0) {
+                advance();
+                world.deep = readNumber(1, MOST_DEEP);
+            } else if (isWord("reed")) {
+                advance();
+                world.reedYears = readNumber(1, 30);
+                world.strawYears = readNumber(1, 30);
+            } else if (isWord("odds")) {
+                advance();
+                world.odds = readNumber(2, 6);
+            } else {
+                fail(2);
             }
             endLine();
         }
@@ -1192,15 +1179,6 @@ public final class ThatchNext {
             advance();
         }
 
-        private void readDeep() {
-            if (world.roofs > 0) {
-                fail(2);
-                return;
-            }
-            advance();
-            world.deep = readNumber(1, MOST_DEEP);
-        }
-
         private void readRoof() {
             if (world.roofs >= MOST_ROOFS) {
                 fail(4);
@@ -1209,34 +1187,33 @@ public final class ThatchNext {
             int r = world.roofs;
             world.roofs++;
             advance();
-            if (token == SLATE) {
+            if (isWord("slate")) {
                 world.slates |= 1 << r;
                 advance();
                 return;
             }
-            for (int d = 0; d <= MOST_DEEP && (token == REED || token == STRAW); d++) {
-                readLayer(r);
+            for (int d = 0; d <= MOST_DEEP && (isWord("reed") || isWord("straw")); d++) {
+                readLayer(r, d);
             }
         }
 
-        private void readLayer(int r) {
-            int d = world.depths[r];
-            if (d >= world.deep || d >= MOST_DEEP) {
+        private void readLayer(int r, int d) {
+            if (d >= world.deep) {
                 fail(4);
                 return;
             }
-            int sort = token == STRAW ? Layer.STRAW : Layer.REED;
+            int sort = isWord("straw") ? Layer.STRAW : Layer.REED;
             advance();
             int layer = Layer.made(sort, readNumber(0, Layer.MOST), NONE);
-            if (token == WET) {
+            if (isWord("wet")) {
                 layer = Layer.madeWet(layer);
                 advance();
             }
-            if (token == MICE) {
+            if (isWord("mice")) {
                 advance();
                 layer = Layer.withMice(layer, readNumber(1, Layer.MOST));
             }
-            if (token == SPARK) {
+            if (isWord("spark")) {
                 layer = Layer.withSpark(layer);
                 advance();
             }
@@ -1258,49 +1235,8 @@ public final class ThatchNext {
             return read;
         }
 
-        private void advance() {
-            while (next < length && (text[next] == 10 || text[next] == 32)) {
-                next++;
-            }
-            start = next;
-            if (next >= length) {
-                token = END;
-            } else if (isLetter(text[next])) {
-                takeWord();
-            } else if (isDigit(text[next])) {
-                takeNumber();
-            } else if (text[next] == ';') {
-                token = SIGN;
-                next++;
-            } else {
-                fail(1);
-            }
-        }
-
-        private void takeNumber() {
-            value = 0;
-            while (next < length && isDigit(text[next])) {
-                value = Math.min(1000, 10 * value + text[next] - '0');
-                next++;
-            }
-            token = NUMBER;
-            if (next - start > 3) {
-                fail(1);
-            }
-        }
-
-        private void takeWord() {
-            while (next < length && isLetter(text[next])) {
-                next++;
-            }
-            token = UNKNOWN;
-            for (int word = ROOF; word <= SPARK && token == UNKNOWN; word++) {
-                token = isSpelt(spelling(word)) ? word : UNKNOWN;
-            }
-        }
-
-        private boolean isSpelt(String word) {
-            if (next - start != word.length()) {
+        private boolean isWord(String word) {
+            if (token != WORD || next - start != word.length()) {
                 return false;
             }
             for (int i = 0; i < word.length(); i++) {
@@ -1311,18 +1247,34 @@ public final class ThatchNext {
             return true;
         }
 
-        private static String spelling(int word) {
-            switch (word) {
-                case ROOF: return "roof";
-                case SLATE: return "slate";
-                case RING: return "ring";
-                case DEEP: return "deep";
-                case REED: return "reed";
-                case STRAW: return "straw";
-                case ODDS: return "odds";
-                case WET: return "wet";
-                case MICE: return "mice";
-                default: return "spark";
+        private void advance() {
+            while (next < length && (text[next] == 10 || text[next] == 32)) {
+                next++;
+            }
+            start = next;
+            if (next >= length) {
+                token = END;
+            } else if (isLetter(text[next])) {
+                token = WORD;
+                while (next < length && isLetter(text[next])) {
+                    next++;
+                }
+            } else if (isDigit(text[next])) {
+                token = NUMBER;
+                value = 0;
+                while (next < length && isDigit(text[next])) {
+                    // Of too many digits this wraps around, but such a number is never used.
+                    value = 10 * value + text[next] - '0';
+                    next++;
+                }
+            } else if (text[next] == ';') {
+                token = SIGN;
+                next++;
+            } else {
+                fail(1);
+            }
+            if (token == NUMBER && next - start > 3) {
+                fail(1);
             }
         }
 
