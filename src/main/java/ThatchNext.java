@@ -191,15 +191,8 @@ public final class ThatchNext {
         if (!now.isRoof(r)) {
             return NO_SUCH;
         }
-        trial.copyFrom(now);
-        for (int years = 0; years <= 99; years++) {
-            if (trial.isLeaking(r)) {
-                return years;
-            }
-            trial.passYear(0);
-            trial.rainDown();
-        }
-        return NONE;
+        // Behind a year in which none skips all thatch has a new sound layer on top: now, or never.
+        return now.isLeaking(r) ? 0 : NONE;
     }
 
     public int spread(int r) {
@@ -250,17 +243,16 @@ public final class ThatchNext {
         if (!now.maySkip(set) || !isHarmSpan(n)) {
             return BAD_NUMBER;
         }
-        return harmTo(now.allRoofs(), set, n);
+        return Integer.bitCount(set & leakingIfSkipping());
     }
 
     public int may(int n) {
-        return isHarmSpan(n) ? harmless(n) : BAD_NUMBER;
+        return isHarmSpan(n) ? now.thatched() & ~leakingIfSkipping() : BAD_NUMBER;
     }
 
     public int laziest(int n) {
-        // Whether a roof that skips leaks hangs on its own layers alone, and who doesn't skip has a
-        // new sound layer: so the harm of a set is the sum over its roofs, and all who may, may together.
-        return isHarmSpan(n) ? harmless(n) : BAD_NUMBER;
+        // No roof leaks because another one skips too: all who may, may together.
+        return isHarmSpan(n) ? now.thatched() & ~leakingIfSkipping() : BAD_NUMBER;
     }
 
     public int harms(int set, int r, int n) {
@@ -270,7 +262,7 @@ public final class ThatchNext {
         if (!now.maySkip(set) || !isHarmSpan(n)) {
             return BAD_NUMBER;
         }
-        return harmTo(1 << r, set, n);
+        return bit(set & leakingIfSkipping(), r);
     }
 
     public int dry(int n, int what) {
@@ -622,30 +614,15 @@ public final class ThatchNext {
         }
     }
 
-    private int harmless(int n) {
-        int set = 0;
-        for (int r = 0; r < now.roofs; r++) {
-            boolean isThatched = bit(now.slates, r) == 0;
-            if (isThatched && harmTo(now.allRoofs(), 1 << r, n) <= 0) {
-                set |= 1 << r;
-            }
-        }
-        return set;
-    }
-
-    private int harmTo(int watched, int set, int n) {
-        return leaksOver(watched, set, n) - leaksOver(watched, 0, n);
-    }
-
-    private int leaksOver(int watched, int firstSkips, int n) {
+    /**
+     * The roofs that leak behind a year in which they skip: the harm of a set, for any n. Who skips keeps its
+     * own layers, whoever else skips; who doesn't, and all in later years, has a new layer of reed, which is
+     * sound at its age of 0: so nothing else leaks, and if none skips nothing does.
+     */
+    private int leakingIfSkipping() {
         trial.copyFrom(now);
-        int leaks = 0;
-        for (int i = 0; i < n; i++) {
-            trial.passYear(i == 0 ? firstSkips : 0);
-            trial.rainDown();
-            leaks += Integer.bitCount(trial.leaking() & watched);
-        }
-        return leaks;
+        trial.passYear(now.thatched());
+        return trial.leaking();
     }
 
     /** Keeps, for each layer with mice that is still there n years on, the roofs it comes to. */
@@ -814,9 +791,9 @@ public final class ThatchNext {
             cats = other.cats;
             lines = other.lines;
             told = other.told;
-            System.arraycopy(other.depths, 0, depths, 0, MOST_ROOFS);
-            System.arraycopy(other.laid, 0, laid, 0, MOST_ROOFS);
-            System.arraycopy(other.layers, 0, layers, 0, MOST_ROOFS * MOST_DEEP);
+            System.arraycopy(other.depths, 0, depths, 0, roofs);
+            System.arraycopy(other.laid, 0, laid, 0, roofs);
+            System.arraycopy(other.layers, 0, layers, 0, roofs * MOST_DEEP);
         }
 
         boolean isRoof(int r) {
@@ -961,8 +938,8 @@ public final class ThatchNext {
 
         /** A year, also beyond the last one: who asks what would be leaves the calendar aside. */
         void passYear(int skips) {
-            System.arraycopy(layers, 0, layersBefore, 0, MOST_ROOFS * MOST_DEEP);
-            System.arraycopy(depths, 0, depthsBefore, 0, MOST_ROOFS);
+            System.arraycopy(layers, 0, layersBefore, 0, roofs * MOST_DEEP);
+            System.arraycopy(depths, 0, depthsBefore, 0, roofs);
             for (int r = 0; r < roofs; r++) {
                 if (bit(skips, r) == 1) {
                     takeOld(r, r, 0);
@@ -1085,6 +1062,16 @@ public final class ThatchNext {
                 }
             }
             return cases;
+        }
+
+        /** In a row of years just those that laid in its last one: all that was there before is older. */
+        int roofsWithNewTop() {
+            int set = 0;
+            for (int r = 0; r < roofs; r++) {
+                boolean isNew = depths[r] > 0 && Layer.ageOf(layerAt(r, 0)) == 0;
+                set |= isNew ? 1 << r : 0;
+            }
+            return set;
         }
 
         boolean hasLayersLike(World other) {
@@ -1446,17 +1433,20 @@ public final class ThatchNext {
             tryYear(0, now);
         }
 
+        /** In the last year only one set can lead here: the tops of the roofs tell who laid. */
         private void tryYear(int k, World now) {
             if (k >= years) {
                 compare(worlds[k], now);
                 return;
             }
             World before = worlds[k];
-            World after = worlds[k + 1];
-            for (int set = 0; set <= before.allRoofs(); set++) {
+            boolean isLast = k == years - 1;
+            int least = isLast ? before.thatched() & ~now.roofsWithNewTop() : 0;
+            int most = isLast ? least : before.allRoofs();
+            for (int set = least; set <= most; set++) {
                 if ((set & before.slates) == 0) {
-                    after.copyFrom(before);
-                    after.passYear(set);
+                    worlds[k + 1].copyFrom(before);
+                    worlds[k + 1].passYear(set);
                     tried[k] = set;
                     tryYear(k + 1, now);
                 }
