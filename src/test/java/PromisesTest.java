@@ -59,6 +59,7 @@ public final class PromisesTest {
 
     public static void main(String[] args) {
         newObject();
+        fullVillage();
         feed();
         row();
         fault();
@@ -121,6 +122,55 @@ public final class PromisesTest {
         due("NONE", ThatchNext.NONE, -1);
     }
 
+    /** Ten roofs of six layers, and then few: no call looks beyond what there is. */
+    private static void fullVillage() {
+        StringBuilder text = new StringBuilder("deep 6;reed 1 1;ring;");
+        for (int r = 0; r < 10; r++) {
+            text.append("roof");
+            for (int d = 0; d < 6; d++) {
+                text.append(" reed ").append(d).append(r == 9 ? " wet mice 1 spark" : "");
+            }
+            text.append(';');
+        }
+        ThatchNext x = told(text.toString());
+        int[] counts = {10, 0, 6, 1, 1, 4, 60, 6, 6, 0, 1, 0, 13, 6};
+        for (int what = 0; what < counts.length; what++) {
+            due("count(" + what + ")", x.count(what), counts[what]);
+        }
+        for (int r = 0; r < 10; r++) {
+            x.mice(r, 99);
+        }
+        due("cats(1)", x.cats(1), 1023);
+        due("cats(5)", x.cats(5), 33);
+        due("may(1)", x.may(1), 511);
+        due("laziest(12)", x.laziest(12), 511);
+        due("causes(0)", x.causes(0), 1023);
+        due("look()", x.look(), -1);
+        due("rain()", x.rain(), 0);
+        due("year(1023)", x.year(1023), 512);
+        for (int y = 0; y < 5; y++) {
+            due("year(0)", x.year(0), 0);
+        }
+        due("spread(9)", x.spread(9), 527);
+        due("causes(1)", x.causes(1), 448);
+        due("all might be", x.look(), 0);
+        due("sparkIn(0, 30)", x.sparkIn(0, 30), -1);
+        due("copy()", x.numbers(3, 0, 40) + x.copy(9, 3), 6);
+        due("few", tell(x, "roof;reed 1 1;ring;"), 3);
+        int[] few = {1, 0, 3, 1, 1, 4, 0, 0, 0, 0, 1, 0, 3, 0};
+        for (int what = 0; what < few.length; what++) {
+            due("count(" + what + ")", x.count(what), few[what]);
+        }
+        due("spread(0)", x.spread(0), 0);
+        due("causes(1)", x.causes(1), 0);
+        due("look()", x.look(), -1);
+        due("rain()", x.rain(), 0);
+        due("leaks()", x.leaks(), 1);
+        due("open(6)", x.open(6), -1);
+        due("sparkIn(0, 0)", x.sparkIn(0, 0), -2);
+        due("cats(1)", x.cats(1), 0);
+    }
+
     private static void feed() {
         promise = 2;
         ThatchNext x = new ThatchNext();
@@ -177,6 +227,14 @@ public final class PromisesTest {
         due("layer(0, 0, 3)", x.layer(0, 0, 3), 9);
         due("layer(0, 0, 4)", x.layer(0, 0, 4), 1);
         due("layer(0, 1, 0)", x.layer(0, 1, 0), 7);
+        due("nothing of old is left", tell(x, "roof;"), 1);
+        due("roof(0, 0)", x.roof(0, 0), 0);
+        feedText(x, "odds 44;");
+        due("no byte behind n is read", x.row(6), -32);
+        due("fault(1)", x.fault(1), 6);
+        feedText(x, "ring;");
+        due("no letter behind n is read", x.row(3), -32);
+        due("fault(1)", x.fault(1), 0);
     }
 
     private static void fault() {
@@ -209,6 +267,9 @@ public final class PromisesTest {
         faulty("straw 3;", 2, 0);
         faulty("roofs;", 2, 0);
         faulty("roo;", 2, 0);
+        faulty("poof;", 2, 0);
+        faulty("roog;", 2, 0);
+        faulty("roofz;", 2, 0);
         faulty("deep ring;", 2, 5);
         faulty("reed 3;", 2, 6);
         faulty("reed 3 4 5;", 2, 9);
@@ -292,6 +353,7 @@ public final class PromisesTest {
         due("roof 0 skips: it leaks", x.year(1), 1);
         due("its first is older", x.layer(0, 0, 0), 9);
         due("99 at most", x.layer(0, 1, 0), 99);
+        due("as deep as there is room", x.roof(1, 0), 2);
         due("own ones below, if the giver skips", x.layer(1, 1, 1), 1);
         due("nothing from slate", x.roof(3, 0), 1);
         due("slate takes nothing", x.roof(2, 0), 0);
@@ -300,6 +362,13 @@ public final class PromisesTest {
         due("who skips keeps all", x.layer(1, 1, 0), 3);
         due("year(0)", x.year(0), 0);
         due("as they were, all at once", x.layer(1, 1, 0), 1);
+        ThatchNext full = told("deep 2;roof reed 1 reed 2;roof reed 3 reed 4;roof reed 5;");
+        full.year(2);
+        due("no deeper than deep", full.roof(1, 0), 2);
+        full.year(4);
+        due("no deeper than deep", full.roof(1, 0), 2);
+        full.year(0);
+        due("no deeper than deep", full.roof(2, 0), 2);
         due("count(1)", x.count(1), 3);
 
         ThatchNext ring = told("ring;deep 3;roof reed 1;roof reed 2;roof reed 3;");
@@ -372,6 +441,9 @@ public final class PromisesTest {
         due("a set far below", x.judge(0, 1), 1);
         fill(x, 0, 0, 10);
         due("others ahead of slate", x.judge(0, 1), 1);
+        x.numbers(0, 0, 40);
+        due("forty years", x.judge(0, 1), 0);
+        due("forty years", x.judge(0, 3), 80);
         due("count(1)", x.count(1), 0);
         due("count(9)", x.count(9), 0);
 
@@ -604,6 +676,7 @@ public final class PromisesTest {
         due("dry(1, -1)", x.dry(1, -1), -2);
         due("dry(0, 0)", x.dry(0, 0), -3);
         due("dry(5, 0)", x.dry(5, 0), -3);
+        due("all may skip", told("roof reed 1;roof reed 1;roof reed 1;roof reed 1;").dry(4, 10), 15);
         ThatchNext five = told("roof slate;roof;roof;roof;roof;");
         due("dry(1, 0)", five.dry(1, 0), -4);
         due("dry(0, 0)", five.dry(0, 0), -3);
@@ -633,6 +706,7 @@ public final class PromisesTest {
         due("mice(2, 1)", x.mice(2, 1), -5);
         due("mice(0, 60)", x.mice(0, 60), 60);
         due("mice(0, 60)", x.mice(0, 60), 99);
+        due("mice(0, 99)", x.mice(0, 99), 99);
         due("layer(0, 0, 3)", x.layer(0, 0, 3), 99);
         due("layer(0, 1, 3)", x.layer(0, 1, 3), 0);
     }
@@ -663,6 +737,11 @@ public final class PromisesTest {
         due("cats(9)", x.cats(9), -3);
         x.cat(1);
         due("cats that are there don't count", x.cats(1), 3);
+        due("the fewest, not the least", told("ring;roof reed 1 mice 1;roof reed 1 mice 1;roof;").cats(2), 4);
+        due("all but the first", told("roof reed 1 mice 1;roof reed 1 mice 1;roof;").cats(1), 6);
+        due("all", told("ring;roof reed 1 mice 1;roof reed 1 mice 1;").cats(1), 3);
+        due("a layer that is gone by then", told("deep 2;roof reed 1 reed 1 mice 3;roof reed 2;roof;").cats(1), 0);
+        due("a layer without mice", told("roof reed 1 reed 1 mice 3;roof reed 2;roof;").cats(1), 2);
     }
 
     private static void spark() {
@@ -690,6 +769,9 @@ public final class PromisesTest {
         due("sparkIn(-1, 0)", x.sparkIn(-1, 0), -2);
         due("sparkIn(0, 31)", x.sparkIn(0, 31), -3);
         due("sparkIn(0, -1)", x.sparkIn(0, -1), -3);
+        due("no ring", told("roof;roof reed 1 spark;").sparkIn(0, 1), -1);
+        due("a ring of one", told("ring;roof reed 1 spark;").sparkIn(0, 1), -1);
+        due("slate takes nothing", told("roof reed 1 spark;roof slate;").sparkIn(0, 1), -1);
     }
 
     private static void odds() {
@@ -737,6 +819,8 @@ public final class PromisesTest {
         due("open(0)", x.open(0), -3);
         due("open(7)", x.open(7), -3);
         due("no sparks", told("roof;").open(1), -1);
+        due("one case", told("roof reed 1 spark;roof;").open(1), 1);
+        due("roof 0", told("ring;roof;roof reed 1 spark;").open(1), 0);
         due("a spark that goes nowhere", told("roof reed 1 spark;roof slate;").open(6), -1);
         due("two come together", told("roof reed 1 spark;roof reed 1 spark reed 1 spark;roof;").open(1), 2);
         due("four sparks", told("roof reed 1 spark reed 1 spark;roof reed 1 spark reed 1 spark;").open(1), -4);
@@ -821,6 +905,16 @@ public final class PromisesTest {
         due("past(1)", x.past(1), 1);
         x.rain();
         due("wet or not", x.past(1), 1);
+        x.image(1);
+        x.mend(0, 1);
+        due("by sorts", x.past(1), 0);
+        x.restore(1);
+        x.mend(1, 0);
+        due("by ages", x.past(1), 0);
+        x.restore(1);
+        x.burn(1);
+        due("by how many", x.past(1), 0);
+        x.restore(1);
         x.year(3);
         x.year(0);
         // what roof 0 gave tells its years; what roof 1 did in the first two leaves no trace
@@ -840,6 +934,11 @@ public final class PromisesTest {
         five.image(0);
         due("past(1)", five.past(1), -4);
         due("past(0)", five.past(0), -3);
+        ThatchNext four = told("roof;roof reed 1;roof reed 2;roof;");
+        four.image(0);
+        four.year(9);
+        due("four roofs", four.past(1), 1);
+        due("four roofs", four.sure(1, 0), 9);
         ThatchNext slates = told("roof reed 1;roof slate;");
         slates.image(0);
         slates.year(0);
@@ -853,6 +952,7 @@ public final class PromisesTest {
         promise = 35;
         ThatchNext x = told("roof reed 8;roof reed 8;roof slate;");
         due("sure(0, 0)", x.sure(0, 0), -3);
+        due("sure(4, 0)", x.sure(4, 0), -3);
         due("sure(2, 2)", x.sure(2, 2), -3);
         due("sure(2, -1)", x.sure(2, -1), -3);
         due("sure(1, 0)", x.sure(1, 0), -5);
@@ -907,6 +1007,13 @@ public final class PromisesTest {
         y.year(6);
         y.year(6);
         due("both might be, each at home", y.look(), 1);
+        y.slate(1);
+        due("only one might be", y.look(), -1);
+        ThatchNext z = told("reed 1 1;roof;roof;");
+        z.year(0);
+        z.year(3);
+        z.year(3);
+        due("the least", z.look(), 0);
     }
 
     private static void numbers() {
@@ -924,6 +1031,10 @@ public final class PromisesTest {
         due("judge(0, 0)", x.judge(0, 0), 39);
         due("numbers(0, 0, 41)", x.numbers(0, 0, 41), -3);
         due("the row stays", x.judge(0, 0), 39);
+        due("numbers(0, 1, 40)", x.numbers(0, 1, 40), 0);
+        due("all 0", x.judge(0, 0), -1);
+        x.write(0, 0, 5);
+        due("judge(0, 0)", x.judge(0, 0), 0);
         due("numbers(0, 1, 40)", x.numbers(0, 1, 40), 0);
         due("all 0", x.judge(0, 0), -1);
         due("numbers(0, 1, 0)", x.numbers(0, 1, 0), 0);
