@@ -14,7 +14,6 @@ public final class ThatchNext {
     private static final int MOST_DEEP = 6;
     private static final int LAST_YEAR = 999;
     private static final int TAPE_SIZE = 900;
-    private static final int FED_INTS = 5;
     private static final int FED_BYTES = 20;
     private static final int SEARCHED_ROOFS = 4;
     private static final int MENDED_ROOFS = 7;
@@ -27,9 +26,7 @@ public final class ThatchNext {
     private static final int IMAGES = 2;
     private static final int LISTED = 10;
 
-    private final byte[] tape = new byte[TAPE_SIZE];
-    private int taped;
-    private final Reader reader = new Reader(tape);
+    private final Reader reader = new Reader();
     private int tellings;
     private final World now = new World();
     private final World trial = new World();
@@ -50,20 +47,21 @@ public final class ThatchNext {
     // ---- the row
 
     public int feed(int a, int b, int c, int d, int e) {
-        if (taped + FED_BYTES > TAPE_SIZE) {
+        if (reader.taped + FED_BYTES > TAPE_SIZE) {
             return NOT_NOW;
         }
-        for (int i = 0; i < FED_INTS; i++) {
-            tapeInt(i == 0 ? a : i == 1 ? b : i == 2 ? c : i == 3 ? d : e);
-        }
-        return taped;
+        reader.takeInt(a);
+        reader.takeInt(b);
+        reader.takeInt(c);
+        reader.takeInt(d);
+        reader.takeInt(e);
+        return reader.taped;
     }
 
     public int row(int n) {
-        if (n < 0 || n > taped) {
+        if (n < 0 || n > reader.taped) {
             return BAD_NUMBER;
         }
-        taped = 0;
         reader.read(n);
         if (reader.fault != 0) {
             return TEXT_FAULT - reader.fault;
@@ -566,7 +564,7 @@ public final class ThatchNext {
             case 8: return now.miceInAll();
             case 9: return now.laidInAll();
             case 10: return now.isRing ? 1 : 0;
-            case 11: return taped;
+            case 11: return reader.taped;
             case 12: return now.lines;
             case 13: return now.wetInAll();
             default: return NONE;
@@ -605,13 +603,6 @@ public final class ThatchNext {
 
     private static boolean isHarmSpan(int n) {
         return n >= 1 && n <= 12;
-    }
-
-    private void tapeInt(int fed) {
-        for (int shift = 24; shift >= 0 && taped < TAPE_SIZE; shift -= 8) {
-            tape[taped] = (byte) (fed >>> shift);
-            taped++;
-        }
     }
 
     /**
@@ -830,7 +821,7 @@ public final class ThatchNext {
             layers[r * MOST_DEEP + d] = layer;
         }
 
-        /** The top layer is in place already, or the roof's depth is set by the caller. */
+        /** Puts it in the top's place alone: how deep the roof is then is for the caller to tell. */
         void layNew(int r, int sort) {
             setLayer(r, 0, Layer.made(sort, 0, r));
             laid[r]++;
@@ -1092,7 +1083,7 @@ public final class ThatchNext {
         }
     }
 
-    /** Reads a text into a world of its own; the first fault ends the reading. */
+    /** Holds the tape, and reads a text from it into a world of its own; the first fault ends the reading. */
     private static final class Reader {
         private static final int FAULTY = 0;
         private static final int END = 1;
@@ -1103,19 +1094,24 @@ public final class ThatchNext {
         final World world = new World();
         int fault;
         int faultPlace = NONE;
-        private final byte[] text;
+        int taped;
+        private final byte[] text = new byte[TAPE_SIZE];
         private int length;
         private int start;
         private int next;
         private int token;
         private int value;
 
-        Reader(byte[] tape) {
-            text = tape;
+        void takeInt(int fed) {
+            for (int shift = 24; shift >= 0 && taped < TAPE_SIZE; shift -= 8) {
+                text[taped] = (byte) (fed >>> shift);
+                taped++;
+            }
         }
 
         void read(int n) {
-            length = Math.min(n, text.length);
+            length = Math.min(n, TAPE_SIZE);
+            taped = 0;
             world.clear();
             fault = 0;
             faultPlace = NONE;
