@@ -198,11 +198,9 @@ public final class ThatchNext {
     }
 
     public int mend(int r, int sort) {
-        if (!now.isRoof(r) || sort < 0 || sort > 1) {
-            return NO_SUCH;
-        }
-        if (bit(now.slates, r) == 1) {
-            return NOT_NOW;
+        int refusal = sort < 0 || sort > 1 ? NO_SUCH : thatchRefusal(r);
+        if (refusal != 0) {
+            return refusal;
         }
         int old = now.depths[r] > 0 ? Layer.ageOf(now.layerAt(r, 0)) : NONE;
         now.depths[r] = Math.max(1, now.depths[r]);
@@ -211,11 +209,9 @@ public final class ThatchNext {
     }
 
     public int slate(int r) {
-        if (!now.isRoof(r)) {
-            return NO_SUCH;
-        }
-        if (bit(now.slates, r) == 1) {
-            return NOT_NOW;
+        int refusal = thatchRefusal(r);
+        if (refusal != 0) {
+            return refusal;
         }
         int gone = now.depths[r];
         now.slates |= 1 << r;
@@ -224,11 +220,9 @@ public final class ThatchNext {
     }
 
     public int burn(int r) {
-        if (!now.isRoof(r)) {
-            return NO_SUCH;
-        }
-        if (bit(now.slates, r) == 1) {
-            return NOT_NOW;
+        int refusal = thatchRefusal(r);
+        if (refusal != 0) {
+            return refusal;
         }
         int gone = now.sparksOn(r);
         now.depths[r] = 0;
@@ -286,11 +280,9 @@ public final class ThatchNext {
     // ---- mice
 
     public int cat(int r) {
-        if (!now.isRoof(r)) {
-            return NO_SUCH;
-        }
-        if (bit(now.slates, r) == 1) {
-            return NOT_NOW;
+        int refusal = thatchRefusal(r);
+        if (refusal != 0) {
+            return refusal;
         }
         now.cats ^= 1 << r;
         return bit(now.cats, r);
@@ -599,6 +591,13 @@ public final class ThatchNext {
 
     private static boolean isRow(int row) {
         return row >= 0 && row < ROWS;
+    }
+
+    private int thatchRefusal(int r) {
+        if (!now.isRoof(r)) {
+            return NO_SUCH;
+        }
+        return bit(now.slates, r) == 1 ? NOT_NOW : 0;
     }
 
     private static boolean isHarmSpan(int n) {
