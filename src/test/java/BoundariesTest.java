@@ -24,35 +24,118 @@ public final class BoundariesTest {
     private static int wrong = 0;
 
     public static void main(String[] args) {
-        textAndTokens();
-        boundsOfTheText();
-        faultsOfTheText();
-        years();
-        skipping();
-        searches();
-        newObjectFeedRowFault();
-        roofAndLayer();
-        yearRainJudgePerform();
-        drawnToBurn();
-        harmToHarms();
+        terms();
+        promisesOfTheRow();
+        promisesOfYears();
+        promisesOfWhoSkips();
+        promisesOfMiceAndSparks();
+        promisesOfMending();
+        promisesOfWhatWas();
+        promisesOfRowsAndImages();
+        allPromisesAreMet();
+        System.out.println(wrong == 0 ? "all boundaries hold" : wrong + " answers at boundaries are not as due");
+        if (wrong != 0) {
+            System.exit(1);
+        }
+    }
+
+    private static void terms() {
+        textsOf900Bytes();
+        tokens();
+        agesAndDepthsTold();
+        layersTold();
+        roofsAndRing();
+        settings();
+        firstFaults();
+        kindsOfFaults();
+        yearsAndSoundness();
+        whatAYearMoves();
+        whatAYearAges();
+        rainAndLeaks();
+        yearsThatCannotBe();
+        from();
+        yearsAside();
+        fewestAndLeast();
+        sparksWeeksPast();
+        draws();
+    }
+
+    private static void promisesOfTheRow() {
+        newObject();
+        feed();
+        row();
+        rowWithAFault();
+        fault();
+        roof();
+        layer();
+    }
+
+    private static void promisesOfYears() {
+        year();
+        rain();
+        judge();
+        perform();
+        drawn();
+        leaks();
+        leaksIn();
+        spread();
+        mend();
+        slate();
+        burn();
+    }
+
+    private static void promisesOfWhoSkips() {
+        harm();
+        may();
+        laziest();
+        harms();
         dry();
+    }
+
+    private static void promisesOfMiceAndSparks() {
+        cat();
         mice();
-        sparks();
-        mending();
-        pastAndSure();
-        causesAndLook();
-        rowsOfNumbers();
-        images();
+        miceIn();
+        cats();
+        spark();
+        sparkIn();
+        odds();
+        outOf();
+        open();
+        openOfNone();
+    }
+
+    private static void promisesOfMending() {
+        order();
+        bestOrder();
+        orderRefused();
+        wetted();
+        wettedByAWrongOrder();
+    }
+
+    private static void promisesOfWhatWas() {
+        past();
+        sure();
+        causes();
+        look();
+    }
+
+    private static void promisesOfRowsAndImages() {
+        numbers();
+        numbersAnew();
+        write();
+        copy();
+        image();
+        restore();
         count();
+    }
+
+    private static void allPromisesAreMet() {
         for (int promise = 1; promise <= PROMISES; promise++) {
             if (!isTested[promise]) {
                 wrong++;
                 System.out.println("promise " + promise + " has no sentence here");
             }
-        }
-        System.out.println(wrong == 0 ? "all boundaries hold" : wrong + " answers at boundaries are not as due");
-        if (wrong != 0) {
-            System.exit(1);
         }
     }
 
@@ -205,7 +288,7 @@ public final class BoundariesTest {
 
     // ---- Terms: the text
 
-    private static void textAndTokens() {
+    private static void textsOf900Bytes() {
         sentence("THE ROW is a TEXT of at most 900 bytes");
         fine(times(180, "ring;"), 180);
         faulty(times(179, "ring;") + "ring ", 2, 900);
@@ -215,7 +298,9 @@ public final class BoundariesTest {
         fine("", 0);
         due("count(0)", told("roof;roof;", x -> x.row(0)).count(0), 0);
         fine(" \n \n", 0);
+    }
 
+    private static void tokens() {
         sentence("TOKENS, as long as they go on");
         faulty("roofroof;", 2, 0);
         faulty("roofreed 1;", 2, 0);
@@ -250,7 +335,7 @@ public final class BoundariesTest {
         fine("ring;ring;", 2);
     }
 
-    private static void boundsOfTheText() {
+    private static void agesAndDepthsTold() {
         sentence("its LAYERS from the top down, each by its sort and AGE 0 to 99");
         ThatchNext ages = told("roof reed 0 straw 99;roof straw 0 reed 99;");
         due("age", ages.layer(0, 0, 0), 0);
@@ -270,7 +355,9 @@ public final class BoundariesTest {
             due("those deeper", told(head + ";").layer(0, deep, 0), -5);
         }
         due("none at all", told("roof;").roof(0, 0), 0);
+    }
 
+    private static void layersTold() {
         sentence("MICE 1 to 99");
         due("1", told("roof reed 1 mice 1;").layer(0, 0, 3), 1);
         due("99", told("roof reed 1 mice 99;").layer(0, 0, 3), 99);
@@ -294,7 +381,9 @@ public final class BoundariesTest {
         faulty("roof reed 1 spark spark;", 2, 18);
         faulty("roof reed 1 spark wet;", 2, 18);
         faulty("roof reed 1 spark mice 3;", 2, 18);
+    }
 
+    private static void roofsAndRing() {
         sentence("ROOFS are 0, 1 .. as they come, 10 at most.");
         ThatchNext ten = told("roof slate;" + times(8, "roof;") + "roof slate;");
         due("count(0)", ten.count(0), 10);
@@ -308,7 +397,9 @@ public final class BoundariesTest {
         due("a ring told first", told("ring;roof;roof;roof;").roof(0, 2), 2);
         due("a ring told last", told("roof;roof;roof;ring;").roof(0, 2), 2);
         due("no ring", told("roof;roof;roof;").roof(0, 2), -1);
+    }
 
+    private static void settings() {
         sentence("deep: 1 to 6 (3), ahead of all roofs.");
         due("as it is told", told("deep 1;").count(2), 1);
         due("as it is told", told("ring;odds 2;deep 6;").count(2), 6);
@@ -343,7 +434,7 @@ public final class BoundariesTest {
         fine("deep 1;deep 6;roof reed 1 reed 1;", 3);
     }
 
-    private static void faultsOfTheText() {
+    private static void firstFaults() {
         sentence("FAULTS, the first along the text");
         faulty("odds 9;ring,", 3, 5);
         faulty("ring,odds 9;", 1, 4);
@@ -357,7 +448,9 @@ public final class BoundariesTest {
         faulty("odds 1000;", 1, 5);
         faulty(times(9, "roof;") + "roof roof;", 2, 50);
         faulty("deep 1;roof slate reed 1 reed 1;", 2, 18);
+    }
 
+    private static void kindsOfFaults() {
         sentence("1 no TOKEN begins so (4 digits and more: at their first).");
         faulty("?", 1, 0);
         faulty("odds 1234;", 1, 5);
@@ -379,7 +472,7 @@ public final class BoundariesTest {
         faulty("reed 3 3", 2, 8);
         faulty("odds", 2, 4);
         faulty("ring;ring", 2, 9);
-        for (String word : new String[] {"slate", "straw", "wet", "mice", "spark", "barn", "7"}) {
+        for (String word : new String[] {"slate", "straw", "wet", "mice", "spark", "barn", "7", "roo", "poof", "roog", "roofs"}) {
             faulty("ring;" + word + " 3;", 2, 5);
         }
 
@@ -406,7 +499,7 @@ public final class BoundariesTest {
 
     // ---- Terms: years
 
-    private static void years() {
+    private static void yearsAndSoundness() {
         sentence("YEAR is 0 at first, 999 at most.");
         ThatchNext old = toldLongAgo("roof;");
         refused(old, "year(0)", -5, () -> old.year(0));
@@ -425,6 +518,9 @@ public final class BoundariesTest {
 
         sentence("(of ROOF 0 the last one in a ring of 2 ROOFS and more, else there is none)");
         due("a ring of 1", told("ring;roof;").roof(0, 2), -1);
+        due("it takes nothing from itself", told("ring;roof reed 1 spark;").sparkIn(0, 1), -1);
+        due("the last of a row gives nothing", told("roof;roof reed 1 spark;").sparkIn(0, 1), -1);
+        due("the last of a ring gives", told("ring;roof;roof reed 1 spark;").sparkIn(0, 1), 1);
         due("a ring of 2", told("ring;roof;roof;").roof(0, 2), 1);
         due("a ring of 10", told("ring;" + times(10, "roof;")).roof(0, 2), 9);
         due("a row of 10", told(times(10, "roof;")).roof(0, 2), -1);
@@ -434,7 +530,10 @@ public final class BoundariesTest {
         ThatchNext slates = told("ring;roof reed 1;roof slate;", x -> x.year(0));
         due("layers", slates.roof(0, 0), 1);
         due("layers", slates.roof(1, 0), 0);
+    }
 
+    private static void whatAYearMoves() {
+        String layers = " reed 1 reed 2 reed 3 reed 4 reed 5 reed 6";
         sentence("who SKIPS keeps all LAYERS; slate stays;");
         ThatchNext kept = told("deep 6;roof reed 1 reed 2 reed 3 reed 4 reed 5 reed 6;roof slate;", x -> x.year(1));
         dueAll("age", new int[] {2, 3, 4, 5, 6, 7}, d -> kept.layer(0, d, 0));
@@ -447,7 +546,6 @@ public final class BoundariesTest {
         dueAll("what", new int[] {0, 0, 0, 0, 0, 0, 1}, what -> laid.layer(0, 0, what));
 
         sentence("and below it, as deep as there is room, LAYERS of its GIVER");
-        String layers = " reed 1 reed 2 reed 3 reed 4 reed 5 reed 6";
         for (int deep = 1; deep <= 6; deep++) {
             String text = "deep " + deep + ";roof" + layers.substring(0, 7 * deep) + ";roof reed 50;";
             ThatchNext x = told(text, y -> y.year(0));
@@ -470,7 +568,9 @@ public final class BoundariesTest {
         due("in a ring of 1", told("ring;roof reed 1 reed 1;", x -> x.year(0)).roof(0, 0), 1);
         due("slate", told("roof slate;roof reed 1 reed 1;", x -> x.year(0)).roof(1, 0), 1);
         due("slate in a ring", told("ring;roof reed 1 reed 1;roof slate;", x -> x.year(0)).roof(0, 0), 1);
+    }
 
+    private static void whatAYearAges() {
         sentence("Then all LAYERS but new ones are 1 older, wet ones 2 (99 at most);");
         ThatchNext older = told("deep 6;roof reed 97 reed 98 reed 99 reed 97 wet reed 98 wet reed 99 wet;roof;", x -> x.year(1));
         dueAll("age", new int[] {98, 99, 99, 99, 99, 99}, d -> older.layer(0, d, 0));
@@ -491,7 +591,7 @@ public final class BoundariesTest {
         dueAll("mice", new int[] {0, 2, 98, 99, 99, 99}, d -> twice.layer(0, d, 3));
     }
 
-    private static void skipping() {
+    private static void rainAndLeaks() {
         sentence("from the top down LAYERS that are not SOUND become wet, to the first SOUND one (which stays as it is).");
         ThatchNext rain = told("roof reed 9 reed 8 reed 9;roof reed 9 reed 9 reed 9;roof reed 8 reed 9;roof slate;roof;");
         due("rain()", rain.rain(), 4);
@@ -506,7 +606,9 @@ public final class BoundariesTest {
         sentence("A ROOF LEAKS, if it is no slate and none of its LAYERS is SOUND (also without LAYERS).");
         dueAll("roof", new int[] {1, 0, 0, 1, 0}, r ->
             told("roof;roof slate;roof reed 9 straw 5 reed 8;roof reed 9 straw 5;roof straw 4;").roof(r, 3));
+    }
 
+    private static void yearsThatCannotBe() {
         sentence("It can't be at the first with: 1 a set with others than ROOFS; 2 one that is slate; 3 YEAR is 999.");
         ThatchNext x = told("roof;roof slate;roof;");
         long[] others = {8, -1, 1L << 31, 1L << 32, Long.MIN_VALUE, Long.MAX_VALUE};
@@ -532,7 +634,9 @@ public final class BoundariesTest {
         due("others and 999", old.judge(0, 1), 1);
         fill(old, 0, 0, 6);
         due("all of them", old.judge(0, 1), 1);
+    }
 
+    private static void from() {
         sentence("the ROOF on which it was new, if it was laid since THE ROW was told.");
         ThatchNext from = told(times(9, "roof;") + "roof reed 1;");
         due("a told one", from.layer(9, 0, 5), -1);
@@ -555,7 +659,7 @@ public final class BoundariesTest {
 
     // ---- Terms: what is asked of the years
 
-    private static void searches() {
+    private static void yearsAside() {
         sentence("(YEAR 999 aside, here and below)");
         ThatchNext old = toldLongAgo("ring;roof;roof;");
         old.burn(0);
@@ -582,7 +686,9 @@ public final class BoundariesTest {
         due("past, both skip till the last", old.past(3), 1);
         due("sure", old.sure(3, 1), 3);
         due("count(1)", old.count(1), 999);
+    }
 
+    private static void fewestAndLeast() {
         sentence("that with the most ROOFS, of like ones the least as bits.");
         due("all", told(times(10, "roof reed 7;")).laziest(1), 1023);
         due("none", told(times(10, "roof reed 8;")).laziest(1), 0);
@@ -591,17 +697,21 @@ public final class BoundariesTest {
         sentence("that with the fewest, by which there are no MICE anywhere behind n YEARS in which none SKIPS; of like ones the least.");
         due("either roof", told("ring;roof reed 1 mice 1;roof;").cats(2), 1);
         due("either of three", told("ring;deep 4;roof;roof reed 1 mice 1;roof;").cats(3), 1);
-        due("one rather than two", told("deep 4;roof reed 1 mice 1;roof reed 1 mice 1;roof;roof;").cats(2), 4);
+        due("one rather than two that are less", told("ring;roof reed 1 mice 1;roof reed 1 mice 1;roof;").cats(2), 4);
+        due("mice that lie deeper", told("roof reed 1 reed 1 mice 1;roof;roof;").cats(1), 2);
+        due("mice that are too deep", told("roof reed 1 reed 1 reed 1 mice 1;roof;roof;").cats(1), 0);
         due("no mice", told("roof reed 1;roof;").cats(1), 0);
         due("roof 9", told(times(8, "roof;") + "roof reed 1 mice 1;roof;").cats(1), 512);
         due("mice that slate does not take", told("roof reed 1 mice 1;roof slate;").cats(1), 0);
+    }
 
+    private static void sparksWeeksPast() {
         sentence("and is no more; else it goes on with its LAYER, none SKIPPING; a LAYER that is no more has none.");
         due("out of the row", told("odds 2;roof;roof reed 1 spark;").odds(1, 6), 0);
         due("below what is deep", told("odds 2;deep 2;ring;roof reed 1 reed 1 spark;roof;").odds(1, 6), 0);
         due("one year, then no more", told("odds 2;deep 2;ring;roof reed 1 spark;roof;").odds(0, 6), 0);
         due("one year, then no more", told("odds 2;deep 2;ring;roof reed 1 spark;roof;").odds(1, 6), 32);
-        due("what burned does not go on", told("odds 2;roof reed 1 spark;roof;roof;").odds(2, 2), 1);
+        due("what burned does not go on", told("odds 3;roof reed 1 spark;roof;roof;").odds(2, 2), 2);
 
         sentence("(numbers: 0 dry, others RAIN; at most 12)");
         for (long number : new long[] {1, -1, 256, Long.MIN_VALUE, Long.MAX_VALUE, 1L << 32}) {
@@ -621,7 +731,9 @@ public final class BoundariesTest {
         rained.year(1);
         rained.rain();
         due("rain behind it", rained.past(1), 1);
+    }
 
+    private static void draws() {
         sentence("(x, an int; a DRAW: x becomes 1103515245 x + 12345, it is x >>> 16)");
         for (int seed : new int[] {0, 1, -1, 12345, MIN, MIN + 1, MAX - 1, MAX}) {
             drawnAsByHand(seed);
@@ -653,7 +765,7 @@ public final class BoundariesTest {
 
     // ---- Promises: the row
 
-    private static void newObjectFeedRowFault() {
+    private static void newObject() {
         sentence(1, "`ThatchNext()`: No ROOFS.");
         ThatchNext fresh = new ThatchNext();
         dueAll("count", new int[] {0, 0, 3, 8, 4, 4, 0, 0, 0, 0, 0, 0, 0, 0}, what -> fresh.count(what));
@@ -669,7 +781,9 @@ public final class BoundariesTest {
         due("open(6)", fresh.open(6), -1);
         due("drawn(1, 30)", fresh.drawn(1, 30), 0);
         due("count(1)", fresh.count(1), 30);
+    }
 
+    private static void feed() {
         sentence(2, "Twenty bytes come behind those on THE TAPE, the highest of each int first: how many it has.");
         ThatchNext x = new ThatchNext();
         due("feed()", x.feed(0x72696e67, 0x3b6f6464, 0x7320363b, 0x726f6f66, 0x3b80ff00), 20);
@@ -690,7 +804,9 @@ public final class BoundariesTest {
         due("count(11)", x.count(11), 900);
         due("row(900)", x.row(900), 90);
         due("room again", x.feed(0, 0, 0, 0, 0), 20);
+    }
 
+    private static void row() {
         sentence(3, "-3: n is below 0 or above what there is (THE TAPE stays);");
         ThatchNext y = told("roof reed 1;", z -> z.year(0));
         refused(y, "row(1) of none", -3, () -> y.row(1));
@@ -704,11 +820,17 @@ public final class BoundariesTest {
         sentence(3, "The first n bytes of THE TAPE (which is empty then) are THE ROW, YEAR is 0, no CATS: how many LINES");
         y.year(0);
         y.cat(0);
+        feedText(y, "ring;odds 22;");
+        due("no letter behind the first 3 is read", y.row(3), -32);
+        due("it is at its first", y.fault(1), 0);
+        feedText(y, "ring;odds 22;");
+        due("no digit behind the first 11 is read", y.row(11), -32);
+        due("it is at their end", y.fault(1), 11);
         feedText(y, "roof;roof;ring;odds 2;");
         due("row(10)", y.row(10), 2);
         dueAll("count", new int[] {2, 0, 3, 8, 4, 4, 0, 0, 0, 0, 0, 0, 2, 0}, what -> y.count(what));
         due("cats", y.roof(0, 6), 0);
-        tell(y, "roof slate;roof reed 1 wet mice 1 spark reed 2 reed 3;roof slate;roof slate;");
+        tell(y, "ring;deep 6;reed 1 2;odds 2;roof slate;roof reed 1 wet mice 1 spark reed 2 reed 3;roof slate;roof slate;");
         due("row()", tell(y, "roof;roof;roof reed 9;"), 3);
         dueAll("count", new int[] {3, 0, 3, 8, 4, 4, 1, 0, 0, 0, 0, 0, 3, 0}, what -> y.count(what));
         due("slate of old is gone", y.leaks(), 7);
@@ -718,7 +840,9 @@ public final class BoundariesTest {
         due("row(0) of more", y.row(0), 0);
         due("count(11)", y.count(11), 0);
         due("most lines", tell(y, times(180, "ring;")), 180);
+    }
 
+    private static void rowWithAFault() {
         sentence(3, "(all stays with a FAULT)");
         ThatchNext stays = told("roof reed 1 mice 3;", z -> z.cat(0), z -> z.year(1));
         due("row()", tell(stays, "ring;roof;roof;odds 9;"), -33);
@@ -731,7 +855,12 @@ public final class BoundariesTest {
         due("2", tell(stays, ";"), -32);
         due("3", tell(stays, "odds 0;"), -33);
         due("4", tell(stays, times(11, "roof;")), -34);
+    }
 
+    private static void fault() {
+        ThatchNext fresh = new ThatchNext();
+        ThatchNext stays = told("roof;");
+        tell(stays, times(11, "roof;"));
         sentence(4, "Of the latest row() that was read, what 0: its FAULT (0), 1: its place (NONE).");
         due("fault(0) of none", fresh.fault(0), 0);
         due("fault(1) of none", fresh.fault(1), -1);
@@ -751,7 +880,7 @@ public final class BoundariesTest {
         refusedFar(stays, "fault()", -1, what -> stays.fault(what));
     }
 
-    private static void roofAndLayer() {
+    private static void roof() {
         sentence(5, "Of a ROOF, what 0: LAYERS, 1: 1 if it is slate, else 0, 2: its GIVER (NONE)");
         ThatchNext full = told("deep 6;ring;roof" + times(6, " reed 1 mice 99") + ";" + times(8, "roof;") + "roof slate;");
         dueAll("roof 0, what", new int[] {6, 0, 9, 0, 6, 594, 0, 0}, what -> full.roof(0, what));
@@ -770,7 +899,9 @@ public final class BoundariesTest {
         full.year(2);
         full.mend(1, 1);
         dueAll("laid by roof", new int[] {1, 1, 1, 1, 1, 1, 1, 1, 1, 0}, r -> full.roof(r, 7));
+    }
 
+    private static void layer() {
         sentence(6, "Of the d-th LAYER of a ROOF from the top (from 0 on), what 0: AGE");
         ThatchNext x = told("deep 6;roof reed 0 straw 1 reed 2 straw 3 reed 4 straw 99 wet mice 99 spark;roof slate;roof;");
         dueAll("age", new int[] {0, 1, 2, 3, 4, 99}, d -> x.layer(0, d, 0));
@@ -794,7 +925,7 @@ public final class BoundariesTest {
 
     // ---- Promises: years
 
-    private static void yearRainJudgePerform() {
+    private static void year() {
         sentence(7, "A YEAR with a set that SKIPS: ROOFS that LEAK then, as bits.");
         due("all", told(times(10, "roof;")).year(1023), 1023);
         due("roof 9", told(times(10, "roof;")).year(512), 512);
@@ -824,13 +955,25 @@ public final class BoundariesTest {
         due("year 998", last.count(1), 998);
         due("the last one", last.year(0), 0);
         refused(last, "one more", -5, () -> last.year(0));
+    }
 
+    private static void rain() {
         sentence(8, "RAIN: how many LAYERS became wet.");
         due("none", new ThatchNext().rain(), 0);
         due("all sixty", told("deep 6;" + times(10, "roof" + times(6, " reed 9") + ";")).rain(), 60);
         due("wet ones don't become so", told("roof reed 9 wet reed 9;").rain(), 1);
         due("sound ones don't", told("roof reed 8;").rain(), 0);
+        due("none that are gone", told(times(2, "roof reed 9 reed 9;"), x -> x.burn(1)).rain(), 2);
+        due("roofs of one layer too", told("roof;roof reed 9;roof reed 9 reed 9;").rain(), 3);
+        ThatchNext rained = told("roof reed 1;roof reed 9 mice 1 straw 5 mice 2 spark reed 10;", x -> x.rain());
+        int[][] wants = {{9, 0, 1, 1, 0, -1, 0}, {5, 1, 1, 2, 1, -1, 0}, {10, 0, 1, 0, 0, -1, 0}};
+        for (int d = 0; d < 3; d++) {
+            int depth = d;
+            dueAll("all else stays, what", wants[d], what -> rained.layer(1, depth, what));
+        }
+    }
 
+    private static void judge() {
         sentence(9, "what 0: the first place that can't be (NONE), 1: why (0)");
         ThatchNext y = told("roof;roof slate;");
         fill(y, 0, 0);
@@ -841,8 +984,9 @@ public final class BoundariesTest {
         dueAll("the last can't be, what", new int[] {2, 1, 0, 1}, what -> y.judge(0, what));
         fill(y, 0, 0, 0, 1, 1);
         dueAll("all can be, what", new int[] {-1, 0, 0, 1}, what -> y.judge(0, what));
+        y.mend(0, 0);
         y.numbers(0, 0, 40);
-        dueAll("forty, what", new int[] {-1, 0, 0, 40}, what -> y.judge(0, what));
+        dueAll("forty more, what", new int[] {-1, 0, 0, 40}, what -> y.judge(0, what));
         y.write(0, 39, 2);
         dueAll("the fortieth can't be, what", new int[] {39, 2, 0, 39}, what -> y.judge(0, what));
         due("as if done", y.count(1), 0);
@@ -859,7 +1003,10 @@ public final class BoundariesTest {
         refused(y, "judge(3, 3)", -6, () -> y.judge(3, 3));
         refusedFar(y, "judge()", -2, row -> y.judge(row, 0));
         refusedFar(y, "what", -2, what -> y.judge(0, what));
+    }
 
+    private static void perform() {
+        ThatchNext y = told("roof;roof slate;", x -> x.numbers(0, 0, 40), x -> x.write(0, 39, 2));
         sentence(10, "They are done as far as they can: how many. -2; -6.");
         due("39 of 40", y.perform(0), 39);
         due("count(1)", y.count(1), 39);
@@ -879,7 +1026,7 @@ public final class BoundariesTest {
         due("count(1)", y.count(1), 999);
     }
 
-    private static void drawnToBurn() {
+    private static void drawn() {
         sentence(11, "-3: how many; -5: YEAR would be above 999.");
         ThatchNext x = told("roof reed 1;roof slate;");
         for (int years : new int[] {-1, 0, 31}) {
@@ -899,21 +1046,27 @@ public final class BoundariesTest {
         refused(x, "drawn(1, 1)", -5, () -> x.drawn(1, 1));
         refused(x, "drawn(1, 31)", -3, () -> x.drawn(1, 31));
         refused(x, "drawn(1, 0)", -3, () -> x.drawn(1, 0));
+    }
 
+    private static void leaks() {
         sentence(12, "ROOFS that LEAK, as bits.");
         due("none", new ThatchNext().leaks(), 0);
         due("all", told(times(10, "roof;")).leaks(), 1023);
         due("roof 9", told(times(9, "roof slate;") + "roof reed 9;").leaks(), 512);
         due("at its last sound age", told("reed 30 30;roof reed 30;roof straw 30;").leaks(), 0);
         due("a year above", told("reed 30 30;roof reed 31;roof straw 31;").leaks(), 3);
+    }
 
+    private static void leaksIn() {
         sentence(13, "a ROOF LEAKS first (0: it does). NONE: not by 99; -2.");
         ThatchNext y = told("roof;roof reed 99;roof reed 8 wet;roof slate;roof straw 5 reed 0;");
         dueAll("leaksIn", new int[] {0, 0, -1, -1, -1}, r -> y.leaksIn(r));
         refused(y, "leaksIn(5)", -2, () -> y.leaksIn(5));
         refused(y, "leaksIn(-1)", -2, () -> y.leaksIn(-1));
         refusedFar(y, "leaksIn()", -2, r -> y.leaksIn(r));
+    }
 
+    private static void spread() {
         sentence(14, "ROOFS with LAYERS FROM a ROOF, as bits. -2.");
         ThatchNext round = told("ring;deep 6;" + times(10, "roof;"));
         due("none yet", round.spread(9), 0);
@@ -922,32 +1075,38 @@ public final class BoundariesTest {
         }
         due("six, as deep as it goes", round.spread(0), 63);
         due("round the ring", round.spread(9), 512 + 31);
+        due("from the middle", round.spread(4), 1008);
         refused(round, "spread(10)", -2, () -> round.spread(10));
         refused(round, "spread(-1)", -2, () -> round.spread(-1));
         refusedFar(round, "spread()", -2, r -> round.spread(r));
+    }
 
+    private static void mend() {
         sentence(15, "the AGE of the old one (NONE: there was none). -2: the ROOF, sort; -5: slate.");
-        ThatchNext mended = told("deep 2;roof reed 99 reed 7;roof slate;roof;roof straw 0;");
+        ThatchNext mended = told("deep 2;roof reed 99 reed 7;roof slate;roof;roof straw 0;roof reed 5;");
         for (int sort : new int[] {-1, 2}) {
             refused(mended, "mend(0, " + sort + ")", -2, () -> mended.mend(0, sort));
             refused(mended, "mend(1, " + sort + ")", -2, () -> mended.mend(1, sort));
         }
-        for (int r : new int[] {-1, 4}) {
+        for (int r : new int[] {-1, 5}) {
             refused(mended, "mend(" + r + ", 0)", -2, () -> mended.mend(r, 0));
         }
         refusedFar(mended, "mend()", -2, r -> mended.mend(r, 0));
         refusedFar(mended, "sort", -2, sort -> mended.mend(0, sort));
         refused(mended, "slate", -5, () -> mended.mend(1, 0));
+        due("5", mended.mend(4, 0), 5);
+        due("none", mended.mend(2, 1), -1);
         due("99", mended.mend(0, 0), 99);
         due("0", mended.mend(3, 1), 0);
-        due("none", mended.mend(2, 1), -1);
-        dueAll("layers", new int[] {2, 0, 1, 1}, r -> mended.roof(r, 0));
+        dueAll("layers", new int[] {2, 0, 1, 1, 1}, r -> mended.roof(r, 0));
         due("what is below stays", mended.layer(0, 1, 0), 7);
+    }
 
+    private static void slate() {
         sentence(16, "A ROOF becomes slate: how many LAYERS went. -2; -5: it is.");
         ThatchNext slates = told("deep 6;roof" + times(6, " reed 1 spark") + ";roof;roof slate;");
-        due("all six", slates.slate(0), 6);
         due("none", slates.slate(1), 0);
+        due("all six", slates.slate(0), 6);
         for (int r = 0; r < 3; r++) {
             int roof = r;
             refused(slates, "slate(" + r + ")", -5, () -> slates.slate(roof));
@@ -956,13 +1115,15 @@ public final class BoundariesTest {
         refused(slates, "slate(-1)", -2, () -> slates.slate(-1));
         refusedFar(slates, "slate()", -2, r -> slates.slate(r));
         due("none leaks", slates.leaks(), 0);
+    }
 
+    private static void burn() {
         sentence(17, "All LAYERS of a ROOF are gone by fire: SPARKS that went. -2; -5: slate.");
         ThatchNext burnt = told("deep 6;roof" + times(6, " reed 1 spark") + ";roof;roof slate;roof reed 1;");
-        due("all six", burnt.burn(0), 6);
-        due("again", burnt.burn(0), 0);
         due("a bare one", burnt.burn(1), 0);
         due("without sparks", burnt.burn(3), 0);
+        due("all six", burnt.burn(0), 6);
+        due("again", burnt.burn(0), 0);
         refused(burnt, "slate", -5, () -> burnt.burn(2));
         refused(burnt, "burn(4)", -2, () -> burnt.burn(4));
         refused(burnt, "burn(-1)", -2, () -> burnt.burn(-1));
@@ -1001,8 +1162,12 @@ public final class BoundariesTest {
 
     // ---- Promises: who skips
 
-    private static void harmToHarms() {
-        ThatchNext x = told("roof;roof slate;roof reed 8;roof reed 7;");
+    private static ThatchNext oneThatMay() {
+        return told("roof;roof slate;roof reed 8;roof reed 7;");
+    }
+
+    private static void harm() {
+        ThatchNext x = oneThatMay();
         sentence(18, "HARM of a set for n YEARS. -3: a set with others than ROOFS, one that is slate, n.");
         due("the empty set", x.harm(0, 1), 0);
         due("1 year", x.harm(13, 1), 2);
@@ -1017,7 +1182,10 @@ public final class BoundariesTest {
         }
         refusedFar(x, "harm()", -3, set -> x.harm(set, 1));
         refusedFar(x, "n", -3, n -> x.harm(1, n));
+    }
 
+    private static void may() {
+        ThatchNext x = oneThatMay();
         sentence(19, "Those who MAY, as bits. -3: n.");
         due("1 year", x.may(1), 8);
         due("12 years", x.may(12), 8);
@@ -1027,7 +1195,10 @@ public final class BoundariesTest {
             refused(x, "may(" + n + ")", -3, () -> x.may(n));
         }
         refusedFar(x, "may()", -3, n -> x.may(n));
+    }
 
+    private static void laziest() {
+        ThatchNext x = oneThatMay();
         sentence(20, "LAZIEST, as bits. -3: n.");
         due("1 year", x.laziest(1), 8);
         due("12 years", x.laziest(12), 8);
@@ -1036,7 +1207,10 @@ public final class BoundariesTest {
             refused(x, "laziest(" + n + ")", -3, () -> x.laziest(n));
         }
         refusedFar(x, "laziest()", -3, n -> x.laziest(n));
+    }
 
+    private static void harms() {
+        ThatchNext x = oneThatMay();
         sentence(21, "than if none did. -2: the ROOF; -3: the set, n.");
         due("one of the set", x.harms(5, 2, 1), 1);
         due("12 years", x.harms(5, 0, 12), 1);
@@ -1097,7 +1271,7 @@ public final class BoundariesTest {
 
     // ---- Promises: mice, sparks
 
-    private static void mice() {
+    private static void cat() {
         sentence(23, "A CAT comes to a ROOF, or goes: whether one is there then (1, 0). -2; -5: slate.");
         ThatchNext x = told(times(9, "roof slate;") + "roof;");
         due("comes", x.cat(9), 1);
@@ -1108,7 +1282,9 @@ public final class BoundariesTest {
         refused(x, "cat(10)", -2, () -> x.cat(10));
         refused(x, "cat(-1)", -2, () -> x.cat(-1));
         refusedFar(x, "cat()", -2, r -> x.cat(r));
+    }
 
+    private static void mice() {
         sentence(24, "MICE come into the top LAYER of a ROOF (1 to 99): how many there are in it then (99 at most).");
         ThatchNext y = told("roof reed 1 reed 1;roof slate;roof;roof reed 1;roof reed 1 mice 98;roof reed 1 mice 98;");
         due("1", y.mice(0, 1), 1);
@@ -1131,7 +1307,9 @@ public final class BoundariesTest {
         refused(y, "mice(-1, 1)", -2, () -> y.mice(-1, 1));
         refusedFar(y, "mice()", -2, r -> y.mice(r, 1));
         refusedFar(y, "n", -3, n -> y.mice(0, n));
+    }
 
+    private static void miceIn() {
         sentence(25, "MICE everywhere behind n YEARS (0 to 30) in which none SKIPS. -3.");
         ThatchNext z = told("ring;deep 6;" + times(10, "roof reed 1 mice 2;"));
         dueAll("years", new int[] {20, 40, 80, 160, 320, 640, 0}, n -> z.miceIn(n));
@@ -1143,7 +1321,10 @@ public final class BoundariesTest {
         refusedFar(z, "miceIn()", -3, n -> z.miceIn(n));
         z.cat(0);
         due("with a cat, 1 year", z.miceIn(1), 36);
+    }
 
+    private static void cats() {
+        ThatchNext z = told("roof reed 1 mice 2;roof;");
         sentence(26, "CATS, as bits. NONE: there is no such set; -3: n (both as numbers alone).");
         due("1 year", told("ring;deep 6;" + times(10, "roof reed 1 mice 2;")).cats(1), 1023);
         due("5 years", told("ring;deep 6;" + times(10, "roof reed 1 mice 2;")).cats(5), 33);
@@ -1156,7 +1337,7 @@ public final class BoundariesTest {
         refusedFar(z, "cats()", -3, n -> z.cats(n));
     }
 
-    private static void sparks() {
+    private static void spark() {
         sentence(27, "how many SPARKS there are everywhere. -2; -5: it has no LAYER, that one has one.");
         ThatchNext x = told("deep 6;" + times(9, "roof" + times(6, " reed1spark") + ";") + "roof reed1" + times(5, " reed1spark") + ";");
         due("sixty", x.spark(9), 60);
@@ -1173,7 +1354,9 @@ public final class BoundariesTest {
         dueAll("in the top, what", new int[] {3, 1, 1, 4, 1, -1, 1}, what -> first.layer(1, 0, what));
         due("not below", first.layer(1, 1, 4), 0);
         due("the second", first.spark(0), 2);
+    }
 
+    private static void sparkIn() {
         sentence(28, "(by ROOFS, from the top down) is n YEARS on (0 to 30), none SKIPPING: 10 times the ROOF, and how deep.");
         ThatchNext y = told("ring;deep 6;roof reed 1 spark reed 1;" + times(8, "roof;") + "roof" + times(5, " reed 1") + " reed 1 spark;");
         dueAll("the first, years", new int[] {0, 11, 22, 33, 44, 55, -1}, n -> y.sparkIn(0, n));
@@ -1194,16 +1377,26 @@ public final class BoundariesTest {
         refusedFar(y, "sparkIn()", -2, k -> y.sparkIn(k, 0));
         refusedFar(y, "n", -3, n -> y.sparkIn(0, n));
         due("no sparks", told("roof reed 1;").sparkIn(0, 0), -2);
+    }
 
+    private static ThatchNext threeSparks() {
+        return told("odds 6;deep 6;roof" + times(3, " reed 1 spark") + ";roof;roof;");
+    }
+
+    private static ThatchNext fourSparks() {
+        return told("roof" + times(3, " reed 1 spark") + ";roof reed 1 spark;");
+    }
+
+    private static void odds() {
+        ThatchNext three = threeSparks();
+        ThatchNext four = fourSparks();
         sentence("ODDS of a ROOF for n YEARS (1 to 6), with at most 3 SPARKS");
-        ThatchNext three = told("odds 6;deep 6;roof" + times(3, " reed 1 spark") + ";roof;roof;");
         due("1 year", three.odds(1, 1), 216 - 125);
         due("roof 0", three.odds(0, 1), 0);
         due("6 years", three.odds(1, 6), (216 - 125) * 470184984576L);
         due("no sparks", told("roof;").odds(0, 6), 0);
 
         sentence(29, "ODDS. -2; -3: n; -4: more than 3 SPARKS.");
-        ThatchNext four = told("roof" + times(3, " reed 1 spark") + ";roof reed 1 spark;");
         for (int n : new int[] {-1, 0, 7}) {
             refused(three, "odds(0, " + n + ")", -3, () -> three.odds(0, n));
             refused(four, "odds(0, " + n + ")", -3, () -> four.odds(0, n));
@@ -1213,7 +1406,11 @@ public final class BoundariesTest {
         refused(four, "odds(-1, 1)", -2, () -> four.odds(-1, 1));
         refusedFar(three, "odds()", -2, r -> three.odds(r, 1));
         refusedFar(three, "n", -3, n -> three.odds(0, n));
+    }
 
+    private static void outOf() {
+        ThatchNext three = threeSparks();
+        ThatchNext four = fourSparks();
         sentence(30, "Of how many (odds to the n times SPARKS). -3; -4.");
         due("no sparks", told("roof;").outOf(6), 1);
         due("1 year", three.outOf(1), 216);
@@ -1225,13 +1422,22 @@ public final class BoundariesTest {
         }
         refused(four, "four", -4, () -> four.outOf(6));
         refusedFar(three, "outOf()", -3, n -> three.outOf(n));
+    }
 
+    private static void open() {
         sentence("OPEN for n: the ROOF with the greatest ODDS, the first.");
         due("two alike", told("roof reed 1 spark;roof reed 1 spark;roof;").open(1), 1);
         due("roof 0", told("ring;roof;roof reed 1 spark;").open(6), 0);
         due("roof 9", told(times(8, "roof;") + "roof reed 1 spark;roof;").open(6), 9);
+        due("1 year", told("roof reed 1 spark;roof reed 1 spark;roof;").open(1), 1);
+        due("2 years", told("roof reed 1 spark;roof reed 1 spark;roof;").open(2), 2);
+        due("6 years", told("roof reed 1 spark;roof reed 1 spark;roof;").open(6), 2);
         due("a later one with more", told("roof reed 1 spark;roof reed 1 spark reed 1 spark;roof;").open(1), 2);
+    }
 
+    private static void openOfNone() {
+        ThatchNext three = threeSparks();
+        ThatchNext four = fourSparks();
         sentence(31, "NONE: all ODDS are 0; -3; -4 (as numbers alone).");
         due("no sparks", told("roof reed 1;").open(6), -1);
         due("no roofs", new ThatchNext().open(1), -1);
@@ -1246,14 +1452,16 @@ public final class BoundariesTest {
 
     // ---- Promises: weeks of mending
 
-    private static void mending() {
+    private static void order() {
         sentence("all ROOFS that are no slate (7 at most), one a WEEK from the first on");
         ThatchNext x = told("roof slate;" + times(7, "roof;") + "roof slate;roof slate;");
         fill(x, 0, 0, 1, 0, 0, 0, 0, 0, 1, 1);
         // all seven leak or are bare in the first week, one is bare in the seventh, none is left in the eighth
         due("order", x.order(0, 0), 8);
         dueAll("order", new int[] {1, 2, 3, 4, 5, 6, 7, -1, -1, -1}, k -> x.order(0, 10 + k));
+    }
 
+    private static void bestOrder() {
         sentence("of like ones the first by ROOFS (those behind the ROW's end, too).");
         ThatchNext late = told("roof reed 1;roof;roof reed 1;roof;");
         fill(late, 0, 0, 0, 1);
@@ -1264,7 +1472,10 @@ public final class BoundariesTest {
         dueAll("both by the fourth week", new int[] {0, 1, 2, 3}, k -> late.order(0, 10 + k));
         fill(late, 0, 0);
         dueAll("no weeks told", new int[] {0, 1, 2, 3}, k -> late.order(0, 10 + k));
+    }
 
+    private static void orderRefused() {
+        ThatchNext x = told("roof slate;" + times(7, "roof;"), y -> y.numbers(0, 0, 8));
         sentence(32, "NONE: not so many; -2: the ROW, what (10 to 19); -6; -4: more than 12 WEEKS, than 7 ROOFS (all as numbers alone).");
         due("not so many", x.order(0, 17), -1);
         due("not so many", x.order(0, 19), -1);
@@ -1287,7 +1498,9 @@ public final class BoundariesTest {
         ThatchNext eight = told(times(8, "roof;"), y -> y.numbers(0, 0, 0));
         refused(eight, "8 roofs", -4, () -> eight.order(0, 0));
         refused(eight, "8 roofs, a missing row", -6, () -> eight.order(1, 0));
+    }
 
+    private static void wetted() {
         sentence(33, "WETTED by an order of ROOFS in another ROW. -2: a ROW; -6; -4: likewise;");
         ThatchNext w = told("roof;roof slate;roof reed 1;roof;");
         for (int row : new int[] {-1, 4}) {
@@ -1315,7 +1528,10 @@ public final class BoundariesTest {
         tooMany.slate(7);
         fill(tooMany, 1, 0, 0, 1, 2, 3, 4, 5, 6);
         due("7 roofs", tooMany.wetted(0, 1), 7);
+    }
 
+    private static void wettedByAWrongOrder() {
+        ThatchNext w = told("roof;roof slate;roof reed 1;roof;", y -> y.numbers(0, 0, 12));
         sentence(33, "-3: the order has not each of these ROOFS once.");
         long[][] orders = {{}, {0, 2}, {0, 2, 2}, {0, 2, 1}, {0, 2, 4}, {0, 2, -1}, {0, 2, 3, 3}, {0, 2, 3, 1}, {0, 2, 3 + (1L << 32)},
             {Long.MIN_VALUE, 2, 3}, {0, 2, Long.MAX_VALUE}};
@@ -1329,7 +1545,7 @@ public final class BoundariesTest {
 
     // ---- Promises: what was
 
-    private static void pastAndSure() {
+    private static void past() {
         sentence(34, "How many rows of sets are PAST. -3: m; -5: no IMAGE 0, or THE ROW was told anew since; -4: more than 4 ROOFS.");
         ThatchNext x = told(times(4, "roof reed 1;"));
         for (int m : new int[] {-1, 0, 4}) {
@@ -1357,12 +1573,17 @@ public final class BoundariesTest {
         x.image(0);
         x.year(0);
         due("a new image", x.past(1), 1);
+        ThatchNext bare = told("roof reed 0;roof reed 0;", y -> y.burn(0), y -> y.image(0), y -> y.year(1));
+        due("a bare one stays bare", bare.past(1), 1);
         ThatchNext five = told(times(4, "roof;") + "roof slate;");
         refused(five, "five, no image", -5, () -> five.past(1));
         five.image(0);
         refused(five, "five", -4, () -> five.past(1));
         refused(five, "five, m", -3, () -> five.past(4));
+    }
 
+    private static void sure() {
+        ThatchNext five = told(times(4, "roof;") + "roof slate;", x -> x.image(0));
         sentence(35, "SURE ones of the k-th YEAR (from 0 on), as bits (0: none are PAST). -3: m, k; -5; -4.");
         ThatchNext y = told("roof reed 1;roof slate;roof reed 1;roof reed 1;");
         for (int m : new int[] {-1, 0, 4}) {
@@ -1389,7 +1610,7 @@ public final class BoundariesTest {
         refused(five, "five, k", -3, () -> five.sure(1, 1));
     }
 
-    private static void causesAndLook() {
+    private static void causes() {
         sentence(36, "CAUSES of a set, as bits (of an empty one all ROOFS). -3: a set with others than ROOFS.");
         due("no roofs", new ThatchNext().causes(0), 0);
         ThatchNext x = told("reed 1 1;" + times(9, "roof;") + "roof slate;");
@@ -1405,9 +1626,12 @@ public final class BoundariesTest {
         refused(x, "causes(1025)", -3, () -> x.causes(1025));
         refused(x, "causes(-1)", -3, () -> x.causes(-1));
         refusedFar(x, "causes()", -3, set -> x.causes(set));
+    }
 
+    private static void look() {
         sentence(37, "the least. NONE: fewer than 2 MIGHT be.");
         due("none", told("reed 1 1;roof reed 9;roof reed 9;").look(), -1);
+        ThatchNext x = told("reed 1 1;" + times(9, "roof;"), y -> y.year(0), y -> y.year(511), y -> y.year(511));
         due("the first of like ones", x.look(), 0);
         for (int r = 0; r < 8; r++) {
             x.burn(r);
@@ -1432,7 +1656,7 @@ public final class BoundariesTest {
 
     // ---- Promises: rows of numbers, images
 
-    private static void rowsOfNumbers() {
+    private static void numbers() {
         sentence("ROWS OF NUMBERS 0 to 3 are MISSING at first, or have 0 to 40 numbers of 8 bits (sort 0), 16 (1), 32 (2), 64 (3).");
         ThatchNext x = told("roof reed 1 reed 99 reed 0;roof slate;");
         for (int row = 0; row < 4; row++) {
@@ -1464,7 +1688,10 @@ public final class BoundariesTest {
         refusedFar(x, "numbers()", -2, row -> x.numbers(row, 0, 1));
         refusedFar(x, "sort", -2, sort -> x.numbers(0, sort, 1));
         refusedFar(x, "n", -3, n -> x.numbers(0, 0, n));
+    }
 
+    private static void numbersAnew() {
+        ThatchNext x = told("roof;roof slate;", y -> fill(y, 0, 1, 2, 2, 2, 2, 2, 2));
         sentence(38, "A ROW OF NUMBERS has n numbers of a sort, all 0 (in place of another one): 0.");
         due("fewer", x.numbers(0, 0, 5), 0);
         due("all 0", x.judge(0, 0), -1);
@@ -1473,7 +1700,10 @@ public final class BoundariesTest {
         due("all 0", x.judge(0, 0), -1);
         due("none", x.numbers(0, 3, 0), 0);
         due("no first", x.write(0, 0, 1), -7);
+    }
 
+    private static void write() {
+        ThatchNext x = told("roof;");
         sentence(39, "Number i of a ROW OF NUMBERS is v, cut to its sort: as it is there.");
         long[] values = {0, 1, -1, 127, 128, -128, -129, 255, 256, 32767, 32768, -32768, -32769, 65535, 65536, (1L << 31) - 1, 1L << 31,
             -(1L << 31), -(1L << 31) - 1, (1L << 32) - 1, 1L << 32, Long.MAX_VALUE, Long.MIN_VALUE};
@@ -1494,7 +1724,9 @@ public final class BoundariesTest {
         }
         refusedFar(x, "write()", -2, row -> x.write(row, 0, 1));
         refusedFar(x, "i", -7, i -> x.write(0, i, 1));
+    }
 
+    private static void copy() {
         sentence(40, "come into a ROW from its first place on, as many as it has places: how many. -2: the ROOF, the ROW; -6.");
         ThatchNext y = told("reed 1 1;deep 6;roof reed 1 reed 0 straw 1 reed 0 reed 1 reed 8;roof;roof slate;roof slate;");
         refused(y, "a missing row", -6, () -> y.copy(0, 0));
@@ -1517,9 +1749,13 @@ public final class BoundariesTest {
         due("of a bare one", y.copy(1, 0), 0);
         due("of slate", y.copy(2, 0), 0);
         due("the seventh is as it was", y.judge(0, 0), 6);
+        ThatchNext z = told("roof reed 1 reed 1;roof straw 5 reed 0;roof;roof slate;", x -> fill(x, 0, 0, 8, 8, 8));
+        due("of another roof", z.copy(1, 0), 2);
+        due("the third is as it was", z.judge(0, 0), 2);
+        due("the first lets two skip, the second none", z.judge(0, 3), 1 + 3);
     }
 
-    private static void images() {
+    private static void image() {
         sentence("IMAGES 0 to 1: THE ROW and all as it stands (none at first).");
         ThatchNext x = told("deep 4;roof reed 1 mice 3;roof slate;");
         refused(x, "restore(0)", -5, () -> x.restore(0));
@@ -1533,7 +1769,10 @@ public final class BoundariesTest {
         due("image(1)", x.image(1), 0);
         refused(x, "image 0 is still none", -5, () -> x.restore(0));
         due("image(0)", x.image(0), 0);
+    }
 
+    private static void restore() {
+        ThatchNext x = told("deep 4;roof reed 1 mice 3;roof slate;", y -> y.image(0), y -> y.image(1));
         sentence(42, "All that is in an IMAGE is as it was: 0. -2; -5: none was made.");
         long[] before = stateOf(x);
         x.cat(0);
@@ -1572,6 +1811,8 @@ public final class BoundariesTest {
             refused(x, "count(" + what + ")", -1, () -> x.count(what));
         }
         refusedFar(x, "count()", -1, what -> x.count(what));
+
+        due("wet ones", told("roof;roof reed 1 reed 1 wet reed 1 wet;roof reed 1 wet;").count(13), 3);
 
         sentence(43, "9 new LAYERS laid since THE ROW was told");
         x.year(1);
