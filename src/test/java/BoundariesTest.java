@@ -1330,6 +1330,8 @@ public final class BoundariesTest {
         due("5 years", told("ring;deep 6;" + times(10, "roof reed 1 mice 2;")).cats(5), 33);
         due("6 years", told("ring;deep 6;" + times(10, "roof reed 1 mice 2;")).cats(6), 0);
         due("8 years", told("ring;deep 6;" + times(10, "roof reed 1 mice 2;")).cats(8), 0);
+        ThatchNext shorter = told("deep 6;" + times(10, "roof" + times(6, " reed1mice99") + ";"));
+        due("of a shorter row without mice", tell(shorter, "ring;roof reed 1;roof reed 1;") + shorter.cats(1), 3);
         due("most mice", told("ring;deep 6;" + times(10, "roof" + times(6, " reed1mice99") + ";")).cats(1), 1023);
         for (int n : new int[] {-1, 0, 9}) {
             refused(z, "cats(" + n + ")", -3, () -> z.cats(n));
@@ -1643,7 +1645,11 @@ public final class BoundariesTest {
         two.year(510);
         two.year(510);
         due("two, the first roof that tells them apart", two.look(), 7);
-        ThatchNext same = told("reed 1 1;deep 6;roof;roof;roof;", y -> y.year(0), y -> y.year(0));
+        ThatchNext same = told("reed 1 1;" + times(10, "roof;"), y -> y.year(0), y -> y.year(0), y -> y.year(0));
+        due("roofs of a longer row, of which none is left then", same.look(), 2);
+        tell(same, "reed 1 1;deep 6;roof;roof;roof;");
+        same.year(0);
+        same.year(0);
         same.burn(0);
         same.year(6);
         same.burn(1);
@@ -1749,10 +1755,10 @@ public final class BoundariesTest {
         due("of a bare one", y.copy(1, 0), 0);
         due("of slate", y.copy(2, 0), 0);
         due("the seventh is as it was", y.judge(0, 0), 6);
-        ThatchNext z = told("roof reed 1 reed 1;roof straw 5 reed 0;roof;roof slate;", x -> fill(x, 0, 0, 8, 8, 8));
-        due("of another roof", z.copy(1, 0), 2);
-        due("the third is as it was", z.judge(0, 0), 2);
-        due("the first lets two skip, the second none", z.judge(0, 3), 1 + 3);
+        ThatchNext z = told("roof reed 7 reed 7;roof straw 5 reed 0;roof;roof slate;", x -> fill(x, 3, 0, 8, 8, 8));
+        due("of another roof into another row", z.copy(1, 3), 2);
+        due("the third is as it was", z.judge(3, 0), 2);
+        due("the first lets two skip, the second none", z.judge(3, 3), 1 + 3);
     }
 
     private static void image() {
