@@ -235,16 +235,16 @@ public final class ThatchNext {
         if (!now.maySkip(set) || !isHarmSpan(n)) {
             return BAD_NUMBER;
         }
-        return Integer.bitCount(set & leakingIfSkipping());
+        return Integer.bitCount(harmedBy(set));
     }
 
     public int may(int n) {
-        return isHarmSpan(n) ? now.thatched() & ~leakingIfSkipping() : BAD_NUMBER;
+        return isHarmSpan(n) ? now.drySkippers(trial) : BAD_NUMBER;
     }
 
     public int laziest(int n) {
         // No roof leaks because another one skips too: all who may, may together.
-        return isHarmSpan(n) ? now.thatched() & ~leakingIfSkipping() : BAD_NUMBER;
+        return isHarmSpan(n) ? now.drySkippers(trial) : BAD_NUMBER;
     }
 
     public int harms(int set, int r, int n) {
@@ -254,7 +254,7 @@ public final class ThatchNext {
         if (!now.maySkip(set) || !isHarmSpan(n)) {
             return BAD_NUMBER;
         }
-        return bit(set & leakingIfSkipping(), r);
+        return bit(harmedBy(set), r);
     }
 
     public int dry(int n, int what) {
@@ -267,9 +267,7 @@ public final class ThatchNext {
         if (now.roofs > SEARCHED_ROOFS) {
             return TOO_MANY;
         }
-        if (!drySearch.find(now, n)) {
-            return NONE;
-        }
+        drySearch.find(now, n);
         if (what == 0) {
             return drySearch.fewest;
         }
@@ -604,15 +602,9 @@ public final class ThatchNext {
         return n >= 1 && n <= 12;
     }
 
-    /**
-     * The roofs that leak behind a year in which they skip: the harm of a set, for any n. Who skips keeps its
-     * own layers, whoever else skips; who doesn't, and all in later years, has a new layer of reed, which is
-     * sound at its age of 0: so nothing else leaks, and if none skips nothing does.
-     */
-    private int leakingIfSkipping() {
-        trial.copyFrom(now);
-        trial.passYear(now.thatched());
-        return trial.leaking();
+    /** Where a set does harm: behind the first year, in which it skips, none skips and so none leaks, for any n. */
+    private int harmedBy(int set) {
+        return set & ~now.drySkippers(trial);
     }
 
     /** Keeps, for each layer with mice that is still there n years on, the roofs it comes to. */
@@ -924,6 +916,16 @@ public final class ThatchNext {
         boolean maySkip(int set) {
             int why = yearFault(set);
             return why != 1 && why != 2;
+        }
+
+        /**
+         * The roofs that could skip in the year that comes and not leak behind it. Who skips keeps its own layers,
+         * whoever else skips; who doesn't has a new layer on top, which is sound at its age of 0.
+         */
+        int drySkippers(World scratch) {
+            scratch.copyFrom(this);
+            scratch.passYear(thatched());
+            return thatched() & ~scratch.leaking();
         }
 
         /** A year, also beyond the last one: who asks what would be leaves the calendar aside. */
@@ -1360,52 +1362,53 @@ public final class ThatchNext {
         }
     }
 
-    /** Tries who skips, year by year, for the fewest new layers that keep all dry. */
+    /**
+     * Tries who skips, year by year, for the fewest new layers that keep all dry. Rain is left out: it wets only
+     * what isn't sound any more, so that it makes no leak.
+     */
     private static final class DrySearch {
         int fewest;
         final int[] best = new int[MOST_DRY_YEARS];
         private final int[] tried = new int[MOST_DRY_YEARS];
         private final World[] worlds = newWorlds(MOST_DRY_YEARS + 1);
-        private boolean isFound;
         private int years;
 
-        boolean find(World now, int n) {
-            isFound = false;
-            fewest = 0;
+        void find(World now, int n) {
             years = Math.min(n, MOST_DRY_YEARS);
             worlds[0].copyFrom(now);
+            fewest = laidByNeed() + 1;
             tryYear(0, 0);
-            return isFound;
+        }
+
+        /** What it takes if each lays only when it must: all can be kept dry so, and no more need be tried. */
+        private int laidByNeed() {
+            int laid = 0;
+            for (int k = 0; k < years; k++) {
+                int may = worlds[k].drySkippers(worlds[k + 1]);
+                laid += Integer.bitCount(worlds[k].thatched() & ~may);
+                worlds[k + 1].copyFrom(worlds[k]);
+                worlds[k + 1].passYear(may);
+            }
+            return laid;
         }
 
         /** Sets rise from 0 on and only fewer layers replace what was found: so the first of like ones stays. */
         private void tryYear(int k, int laidBefore) {
             if (k >= years) {
-                keep(laidBefore);
+                fewest = laidBefore;
+                System.arraycopy(tried, 0, best, 0, MOST_DRY_YEARS);
                 return;
             }
-            World before = worlds[k];
-            World after = worlds[k + 1];
-            for (int set = 0; set <= before.allRoofs(); set++) {
-                int laid = laidBefore + Integer.bitCount(before.thatched() & ~set);
-                if ((set & before.slates) != 0 || isFound && laid >= fewest) {
-                    continue;
-                }
-                after.copyFrom(before);
-                after.passYear(set);
-                after.rainDown();
-                if (after.leaking() == 0) {
+            int may = worlds[k].drySkippers(worlds[k + 1]);
+            int least = k == years - 1 ? may : 0;
+            for (int set = least; set <= may; set++) {
+                int laid = laidBefore + Integer.bitCount(worlds[k].thatched() & ~set);
+                if ((set & ~may) == 0 && laid < fewest) {
                     tried[k] = set;
+                    worlds[k + 1].copyFrom(worlds[k]);
+                    worlds[k + 1].passYear(set);
                     tryYear(k + 1, laid);
                 }
-            }
-        }
-
-        private void keep(int laid) {
-            if (!isFound || laid < fewest) {
-                isFound = true;
-                fewest = laid;
-                System.arraycopy(tried, 0, best, 0, MOST_DRY_YEARS);
             }
         }
     }
