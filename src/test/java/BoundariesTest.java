@@ -58,6 +58,7 @@ public final class BoundariesTest {
         fewestAndLeast();
         sparksWeeksPast();
         draws();
+        refusedCalls();
     }
 
     private static void promisesOfTheRow() {
@@ -738,6 +739,33 @@ public final class BoundariesTest {
         for (int seed : new int[] {0, 1, -1, 12345, MIN, MIN + 1, MAX - 1, MAX}) {
             drawnAsByHand(seed);
         }
+    }
+
+    private static void refusedCalls() {
+        sentence("Refused calls answer by a code and change nothing");
+        ThatchNext x = told("roof reed 1;roof slate;", y -> y.image(0), y -> y.year(0), y -> y.image(1));
+        feedText(x, "ring;roof;");
+        due("image(2)", x.image(2), -2);
+        due("image(-1)", x.image(-1), -2);
+        due("restore(2)", x.restore(2), -2);
+        due("row(21)", x.row(21), -3);
+        due("the images are as they were", x.restore(0) + x.count(1), 0);
+        due("the images are as they were", x.restore(1) + x.count(1), 1);
+        due("the tape is as it was", x.row(10), 2);
+        due("count(10)", x.count(10), 1);
+
+        sentence("-30 less the FAULT: a text. (Of several that which the call tells first.)");
+        due("how many goes ahead of the text", tell(x, ",") * 0 + x.row(1), -3);
+        due("the set ahead of the year", toldLongAgo("roof slate;").year(1), -3);
+        due("the row ahead of what is missing", x.judge(4, 0), -2);
+        due("what ahead of what is missing", x.judge(0, 4), -2);
+
+        sentence("An object is used for at most 512 calls after it has been made");
+        ThatchNext long512 = new ThatchNext();
+        for (int call = 1; call < 512; call++) {
+            due("call " + call, long512.row(0), 0);
+        }
+        due("the last one", long512.feed(0, 0, 0, 0, 0), 20);
     }
 
     /** By unsigned numbers of 32 bits, so that no sign and no wrap-around of an int takes part. */
