@@ -755,7 +755,9 @@ public final class BoundariesTest {
         due("count(10)", x.count(10), 1);
 
         sentence("-30 less the FAULT: a text. (Of several that which the call tells first.)");
-        due("how many goes ahead of the text", tell(x, ",") * 0 + x.row(1), -3);
+        feedText(x, ",");
+        due("how many goes ahead of the text", x.row(21), -3);
+        due("the text", x.row(1), -31);
         due("the set ahead of the year", toldLongAgo("roof slate;").year(1), -3);
         due("the row ahead of what is missing", x.judge(4, 0), -2);
         due("what ahead of what is missing", x.judge(0, 4), -2);
